@@ -71,7 +71,6 @@ public final class ShoreFields {
             return false;
         }
         begin.fieldCount = n;
-        now.startFrom(begin);
         return true;
     }
 
@@ -161,7 +160,6 @@ public final class ShoreFields {
             return NONE;
         }
         dredgings.add(border, units, field, weeksGone);
-        anythingTold = true;
         return now.bringFromBar(border, units, field);
     }
 
@@ -549,7 +547,8 @@ public final class ShoreFields {
         }
 
         private int freeSandOf(Begin begin, int field) {
-            return Math.max(sandOf[field] - UNITS_OF_A_LINE * begin.wallOf[field], 0);
+            int above = sandOf[field] - UNITS_OF_A_LINE * begin.wallOf[field];
+            return above > 0 ? above : 0;
         }
 
         private void addChanges(Begin begin) {
