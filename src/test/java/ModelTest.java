@@ -1,7 +1,6 @@
 import java.util.ArrayList;
 import java.util.Arrays;
 import java.util.List;
-import java.util.NoSuchElementException;
 import java.util.Random;
 import java.util.TreeMap;
 
@@ -9,7 +8,7 @@ import java.util.TreeMap;
 public final class ModelTest {
     private static final int RUNS = 1500;
     private static final int CALLS = 300;
-    private static final int REFUSED = Integer.MIN_VALUE;
+    private static final int REFUSED = Runs.THROWN;
 
     /** The shore in lists and maps, gone through from the begin for every single question. */
     private static final class Model {
@@ -363,36 +362,6 @@ public final class ModelTest {
         return in(what, 0, 6) ? counts[what] : -1;
     }
 
-    private static int asked(ShoreFields x, String call, int[] a) {
-        try {
-            switch (call) {
-                case "fields": return x.fields(a[0]) ? 1 : 0;
-                case "sand": return x.sand(a[0], a[1]) ? 1 : 0;
-                case "groyne": return x.groyne(a[0], a[1], a[2]) ? 1 : 0;
-                case "mouth": return x.mouth(a[0], a[1]) ? 1 : 0;
-                case "wall": return x.wall(a[0], a[1]) ? 1 : 0;
-                case "feed": return x.feed(a[0], a[1]) ? 1 : 0;
-                case "number": return x.number(a[0]) ? 1 : 0;
-                case "wave": return x.wave(a[0], a[1]);
-                case "weeks": return x.weeks(a[0]);
-                case "dredge": return x.dredge(a[0], a[1], a[2]);
-                case "line": return x.line(a[0]);
-                case "look": return x.look(a[0], a[1]);
-                case "border": return x.border(a[0], a[1]);
-                case "without": return x.without(a[0], a[1]);
-                case "share": return x.share(a[0], a[1], a[2]);
-                case "work": return x.work(a[0], a[1], a[2], a[3]);
-                case "mark": return x.mark(a[0], a[1]) ? 1 : 0;
-                case "works": return x.works();
-                case "survey": return x.survey(a[0], a[1], a[2], a[3]);
-                case "fits": return x.fits();
-                default: return x.count(a[0]);
-            }
-        } catch (NoSuchElementException e) {
-            return REFUSED;
-        }
-    }
-
     /** Draws calls that are mostly good ones, by what the model holds. */
     private static final class Draw {
         final Random random;
@@ -504,7 +473,7 @@ public final class ModelTest {
                 String call = i == 0 ? "fields" : names[draw.random.nextInt(names.length)];
                 int[] a = Arrays.copyOf(draw.args(call), 4);
                 calls.append("\n  ").append(call).append(Arrays.toString(a));
-                int got = asked(x, call, a);
+                int got = Runs.answer(x, call, a);
                 int want = due(m, call, a);
                 if (got != want) {
                     System.out.println("run " + run + ":" + calls + " answered " + got + ", due is " + want);
