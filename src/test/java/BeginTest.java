@@ -42,6 +42,21 @@ public final class BeginTest {
         Runs.run("fields 2; feed 0 0; wave 5 0; wave 9 2; wave 1 2; weeks 3; look 0 0 = 960; without 0 0 = 96");
     }
 
+    /** Waves of both sides, of which each call asks anew what the weeks themselves made of the begin. */
+    private static void goneThroughAnewFromTheWholeBegin() {
+        String behind = "; wave 5 0; wave 5 1; weeks 2; ";
+        Runs.run("fields 2; sand 0 1500" + behind + "look 0 0 = 1470; without 0 0 = 147; survey 0 2 147 147; fits = 510");
+        Runs.run("fields 2; wall 0 100" + behind + "look 0 0 = 1014; without 0 0 = 101; mark 0 101; works = 0");
+        Runs.run("fields 2; wall 1 100; wave 9 2; weeks 1; line 1 = 100; without 0 1 = 100; survey 1 1 100 100; fits = 511; mark 1 100",
+            "mark 0 97; works = 0; mark 0 98; works = none");
+        Runs.run("fields 2; feed 0 0" + behind + "look 0 0 = 983; without 0 0 = 98; mark 0 98; works = 0; mark 0 99; works = none");
+        Runs.run("fields 2; feed 1 0" + behind + "look 1 0 = 980; without 0 1 = 98; mark 1 98; works = 0; mark 1 99; works = none");
+        Runs.run("fields 2; feed 1 200" + behind + "look 1 0 = 1020; without 0 1 = 102; survey 1 2 102 102; fits = 24");
+        Runs.run("fields 2; number 9; feed 0 0; wave 5 0; weeks 1; look 0 0 = 955; without 0 0 = 95; mark 0 95; works = 0; mark 0 96; works = none");
+        Runs.run("fields 2; groyne 1 999 0" + behind + "look 0 0 = 1000; without 0 0 = 100; look 1 0 = 1000; without 0 1 = 100");
+        Runs.run("fields 2; mouth 1 100; wave 5 0; weeks 1; look 1 0 = 980; without 0 1 = 98; mark 1 98; works = 0; mark 1 99; works = none");
+    }
+
     private static void dredgingIsDoneAnewBehindItsWeek() {
         Runs.run(FULL_MOUTH, "dredge 1 9999 1 = 20; look 1 0 = 1000; without 0 1 = 100; weeks 1; look 1 0 = 980",
             "without 0 0 = 100; without 0 1 = 98; dredge 1 15 0 = 15; look 0 0 = 1015; without 0 0 = 101; weeks 1",
@@ -244,6 +259,7 @@ public final class BeginTest {
         Runs.sentence("BARS of 0", BeginTest::barsOf0AtTheBegin);
         Runs.sentence("no more may be told of the BEGIN then", BeginTest::notToldBehindAWeek);
         Runs.sentence("the WEEKS that go by are those told, in order", BeginTest::weeksGoneAreThoseToldInOrder);
+        Runs.sentence("What follows goes through WEEKS anew from it", BeginTest::goneThroughAnewFromTheWholeBegin);
         Runs.sentence("with DREDGING behind the same WEEK each time", BeginTest::dredgingIsDoneAnewBehindItsWeek);
         Runs.sentence("(as much as is there then)", BeginTest::asMuchAsIsThereThen);
         Runs.sentence("WITHOUT: as many WEEKS as went by, from the BEGIN", BeginTest::withoutGoesAsManyWeeksAsWentBy);

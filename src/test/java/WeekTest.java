@@ -202,6 +202,8 @@ public final class WeekTest {
             Runs.run("fields 2; sand 1 " + one[0], "wall 1 " + one[1], week(7, 2), sandOf(1, one[0] - one[2]),
                 "look 1 1 = " + one[2], "look 1 2 = 0; look 0 0 = 979");
         }
+        Runs.run("fields 2; sand 1 50; wave 7 2; wave 9 2; wave 7 2; weeks 1; look 1 1 = 21; weeks 1; look 1 1 = 48; look 0 1 = 48",
+            "weeks 1; look 1 1 = 50; look 1 0 = 0; look 0 1 = 69; look 0 0 = 931");
         // what passing left or brought is what the storm finds
         Runs.run("fields 2; sand 0 0; wave 7 0; weeks 1; look 0 0 = 7; look 0 1 = 21");
         Runs.run("fields 2; sand 0 30; sand 1 30; feed 0 0; wave 7 0; weeks 1; look 0 0 = 0; look 0 1 = 2; look 1 1 = 21");
